@@ -238,7 +238,7 @@ public final class IceHall {
         planner.begin();
         for (int i = 0; i < n; i++) {
             int hour = now + i;
-            int heat = heatIn(0, hour) + heatIn(1, hour);
+            int heat = heatOf(standingAt(0, hour)) + heatOf(standingAt(1, hour));
             planner.addHour(heat + SHEETS * wantOfWarmth(warmth), prices[hour % CLOCKS]);
         }
         return planner.solve(store, storeMost, working);
@@ -255,9 +255,6 @@ public final class IceHall {
         int all = 0;
         for (int c = 0; c < CLUBS; c++) {
             all += countInState(c, HELD);
-        }
-        if (all <= 0) {
-            return NONE;
         }
         return partOf(club, pence, all);
     }
@@ -371,8 +368,11 @@ public final class IceHall {
         return NONE;
     }
 
-    private int heatIn(int s, int hour) {
-        Session session = sessionOf(numberAt(s, hour));
+    private Session standingAt(int s, int hour) {
+        return sessionOf(numberAt(s, hour));
+    }
+
+    private static int heatOf(Session session) {
         return session == null ? 0 : ofKind(HEAT_OF_KIND, session.kind);
     }
 
@@ -434,11 +434,11 @@ public final class IceHall {
 
     private void passHour(int s, int wantedByWarmth) {
         Ice ice = iceOf(s);
-        int wanted = wantedByWarmth + heatIn(s, now);
+        Session session = standingAt(s, now);
+        int wanted = wantedByWarmth + heatOf(session);
         int given = Math.min(wanted, store);
         store -= given;
         ice.melt(wanted - given);
-        Session session = sessionOf(numberAt(s, now));
         if (session != null) {
             ice.decide(session);
         } else if (!ice.closed.has(now)) {
@@ -455,7 +455,6 @@ public final class IceHall {
         ice.tellCut(0, 0);
     }
 
-    /** The fair part of a club; all, the number of HELD sessions, is above 0. */
     private int partOf(int c, int pence, int all) {
         if (all <= 0) {
             return NONE;

@@ -3,6 +3,7 @@ public final class Promise09CancelTest {
     public static void main(String[] args) {
         owesHundredthsRoundedDown();
         onlyWhatIsBooked();
+        onlyItsOwnHourIsFree();
         Due.end();
     }
 
@@ -24,6 +25,20 @@ public final class Promise09CancelTest {
             Due.is("none is BOOKED", x.club(3, 2), 0);
             Due.is("ever BOOKED", x.count(5), 1);
             Due.is("at", x.at(1, 40), -1);
+        }
+    }
+
+    private static void onlyItsOwnHourIsFree() {
+        IceHall x = new IceHall();
+        for (int b = 0; b < 100; b++) {
+            x.book(b % 6, 0, b % 2, b * 10);
+        }
+        for (int b = 0; b < 100; b += 3) {
+            Due.yes("cancel " + b, x.cancel(b));
+        }
+        for (int b = 0; b < 100; b++) {
+            Due.is("at " + b * 10, x.at(b % 2, b * 10), b % 3 == 0 ? -1 : b);
+            Due.is("anew at " + b * 10, x.book(0, 0, b % 2, b * 10), b % 3 == 0 ? 100 + b / 3 : -1);
         }
     }
 
