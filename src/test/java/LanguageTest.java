@@ -10,7 +10,8 @@ public final class LanguageTest {
     private static final String[] FORBIDDEN = {
         "\\bthrow\\b", "\\bthrows\\b", "\\btry\\b", "\\bcatch\\b", "\\bfinally\\b", "\\bsynchronized\\b",
         "\\bassert\\b", "\\bpackage\\b", "\\bimport\\b", "->", "::", "\\w+Exact\\b", "\\bstatic\\s*\\{",
-        "\\bThread\\b", "\\bjava\\.", "\\bSystem\\.(?!arraycopy\\b)", "\\bvar\\b", "\\bObject\\b", "\\bwhile\\s*\\(true\\)",
+        "\\bThread\\b", "\\bjava\\.", "\\bSystem\\.(?!arraycopy\\b)", "\\bvar\\b", "\\bObject\\b",
+        "\\bwhile\\s*\\(true\\)",
         "\\bdouble\\b", "\\bfloat\\b", "\\[\\]\\s*\\[\\]", "\"\\s*\\+", "\\+\\s*\"", "\\bhashCode\\b", "\\btoString\\b",
         "\\bgetClass\\b", "\\bnative\\b", "\\bvolatile\\b", "\\btransient\\b", "@\\w+"};
 
@@ -32,7 +33,8 @@ public final class LanguageTest {
     }
 
     private static void methodsAreShort(List<String> lines) {
-        Pattern head = Pattern.compile("^( {4}| {8})(?=\\S)(?!static final|final|return|if|for|switch|else)[\\w\\[\\]<> ]+\\(.*\\) \\{$");
+        Pattern head = Pattern.compile("^( {4}| {8})(?=\\S)(?!static final|final|return|if|for|switch|else)"
+                + "[\\w\\[\\]<> ]+\\(.*\\) \\{$");
         int methods = 0;
         for (int i = 0; i < lines.size(); i++) {
             Matcher m = head.matcher(lines.get(i));

@@ -79,6 +79,7 @@ public final class Promise11CloseTest {
         Due.is("the eleventh time", x.close(0, 500, 501), -1);
         Due.same("refused close", before, Due.state(x));
         Due.is("not closed", x.book(0, 0, 0, 500), 0);
+        Due.is("the other sheet has its own ten", x.close(1, 500, 501), 0);
     }
 
     private static void sixSessionsCannotBeMoved() {
