@@ -6,6 +6,7 @@ public final class Terms3PlanTest {
         lacksByOne();
         spiltByOne();
         noMoreThanWork();
+        allOnInAllHours();
         heatOfWhatStands();
         heatOfWhatWillBeLost();
         closedSheetsWantToo();
@@ -104,6 +105,21 @@ public final class Terms3PlanTest {
                 Due.yes("planned " + i, x.planned(i) <= working);
             }
         }
+    }
+
+    private static void allOnInAllHours() {
+        IceHall x = empty();
+        x.rest(12);
+        for (int hour = 5; hour < 13; hour++) {
+            x.book(0, 1, 0, hour);
+            x.book(1, 1, 1, hour);
+        }
+        // 58 are wanted in each hour, and 23 hours of compressors give but 460 of the 464.
+        Due.is("plan", x.plan(8, 40), 240);
+        row(x, 3, 3, 3, 3, 3, 3, 3, 3);
+        x.compressors(2);
+        Due.is("plan with two", x.plan(1, 40), -1);
+        row(x, 3, 3, 3, 3, 3, 3, 3, 3);
     }
 
     private static void heatOfWhatStands() {
